@@ -1,0 +1,91 @@
+/** Counts wrong answers of one test, and compares whole objects by all that they show. */
+final class Check {
+    /** Some calls on an object. */
+    interface Calls {
+        void on(MashEnzymes mash);
+    }
+
+    private static final int SUGARS = 5;
+    private static final int ENZYMES = 4;
+
+    private int wrong;
+
+    void is(String call, double got, double due) {
+        if (got != due) {
+            report(call, String.valueOf(got), String.valueOf(due));
+        }
+    }
+
+    void is(String call, boolean got, boolean due) {
+        if (got != due) {
+            report(call, String.valueOf(got), String.valueOf(due));
+        }
+    }
+
+    void near(String call, double got, double due) {
+        if (!(Math.abs(got - due) <= 1e-12 * Math.max(1, Math.abs(due)))) {
+            report(call, String.valueOf(got), "about " + due);
+        }
+    }
+
+    /** The refused calls must leave no trace, neither now nor in what the object does later. */
+    void changesNothing(String call, Calls before, Calls refused) {
+        MashEnzymes touched = new MashEnzymes();
+        MashEnzymes plain = new MashEnzymes();
+        before.on(touched);
+        before.on(plain);
+        refused.on(touched);
+        same(call + ", at once", touched, plain);
+        probe(call, touched, plain);
+    }
+
+    void same(String call, MashEnzymes got, MashEnzymes due) {
+        is(call + ": degrees()", got.degrees(), due.degrees());
+        is(call + ": water()", got.water(), due.water());
+        is(call + ": starch()", got.starch(), due.starch());
+        is(call + ": converted()", got.converted(), due.converted());
+        for (int kind = 0; kind < SUGARS; kind++) {
+            is(call + ": sugar(" + kind + ")", got.sugar(kind), due.sugar(kind));
+        }
+        for (int kind = 0; kind < ENZYMES; kind++) {
+            is(call + ": enzymeLeft(" + kind + ")", got.enzymeLeft(kind), due.enzymeLeft(kind));
+        }
+    }
+
+    void end() {
+        if (wrong > 0) {
+            System.out.println(wrong + " answers are not as due");
+            System.exit(1);
+        }
+    }
+
+    // Brings to light what no method shows: second, steps, decoctions, acidity, protein, told starch.
+    private void probe(String call, MashEnzymes got, MashEnzymes due) {
+        is(call + ", then run(0)", got.run(0), due.run(0));
+        is(call + ", then grain", got.grain(2, 0.5, 0), due.grain(2, 0.5, 0));
+        is(call + ", then liquor", got.liquor(3, 58, 5.25), due.liquor(3, 58, 5.25));
+        same(call + ", then grain and liquor", got, due);
+        int second = due.run(3);
+        is(call + ", then run(3)", got.run(3), second);
+        same(call + ", then run(3)", got, due);
+        for (int later = 1; later <= 40; later++) {
+            String step = ", then step " + later;
+            is(call + step, got.step(second + later, 60), due.step(second + later, 60));
+        }
+        is(call + ", then run(20)", got.run(20), due.run(20));
+        same(call + ", then run(20)", got, due);
+        for (int decoction = 0; decoction < 9; decoction++) {
+            is(call + ", then back " + decoction, got.back(decoction, 80), due.back(decoction, 80));
+        }
+        for (int decoction = 0; decoction < 9; decoction++) {
+            is(call + ", then take", got.take(0.25), due.take(0.25));
+        }
+        is(call + ", then run(2000)", got.run(2000), due.run(2000));
+        same(call + ", at last", got, due);
+    }
+
+    private void report(String call, String got, String due) {
+        wrong++;
+        System.out.println(call + " answered " + got + ", due is " + due);
+    }
+}
