@@ -167,7 +167,7 @@ public final class MashEnzymes {
     }
 
     public boolean converted() {
-        return !isEmpty() && 128 * (amounts[RAW_STARCH] + amounts[GELLED_STARCH]) <= toldStarch;
+        return !isEmpty() && 128 * starch() <= toldStarch;
     }
 
     private boolean isEmpty() {
@@ -292,7 +292,7 @@ public final class MashEnzymes {
         private static final int DECAYS = RATES + ENZYME_KINDS;
         private static final int GELLING = DECAYS + ENZYME_KINDS;
         private static final int ROWS = GELLING + 1;
-        // The rates in eighths, all others in 4,096ths.
+        // The rates of the four enzymes in eighths; then their decays and the gelling in 4,096ths.
         private static final int[] TABLE = {
             0, 1, 2, 4, 6, 8, 7, 4, 0,
             0, 2, 4, 8, 7, 3, 1, 0, 0,

@@ -25,7 +25,9 @@ final class RunTest {
         allRows(check, 100, 8, 8);
         quarterOfTheWay(check);
         oneWholeSecond(check);
+        proteinIsUsedUp(check);
         littleWaterHolds(check);
+        noWaterAndNoEnzymes(check);
         secondsAddUp(check);
         limitsOfTime(check);
         wrongInputsAreRefused(check);
@@ -153,7 +155,24 @@ final class RunTest {
         check.is("enzymeLeft(3)", mash.enzymeLeft(3), 16 - 16 * 32 / 4096.0);
     }
 
-    // Eight of dextrins split per water by beta, two by limit: each second leaves half, or three quarters, of the water.
+    // At 40 degrees no enzyme decays, so each second splits the same part of what is left.
+    private static void proteinIsUsedUp(Check check) {
+        MashEnzymes mash = new MashEnzymes();
+        mash.grain(16, 0, 1);
+        mash.liquor(8, 40, 5.5);
+        mash.enzyme(3, 16);
+        double protein = 1;
+        double acids = 0;
+        for (int second = 1; second <= 20; second++) {
+            mash.run(1);
+            double split = protein * 0.03125;
+            protein = protein - split;
+            acids = acids + split;
+            check.is("sugar(4) at second " + second, mash.sugar(4), acids);
+        }
+    }
+
+    // At most eight of dextrins per water are split by beta, two by limit: half, or three quarters, of the water stay.
     private static void littleWaterHolds(Check check) {
         for (int e = 1; e <= 2; e++) {
             MashEnzymes mash = new MashEnzymes();
@@ -169,6 +188,20 @@ final class RunTest {
             check.is("sugar held by enzyme " + e, e == 1 ? mash.sugar(1) : mash.sugar(0),
                 e == 1 ? water * 8 * 1.0625 : water * 2 * 1.125);
             check.is("dextrins held by enzyme " + e, mash.sugar(3), dextrins - water * (e == 1 ? 8 : 2));
+        }
+    }
+
+    // Three quarters of the least double round to all of it, so no water stays: nothing may divide by it.
+    private static void noWaterAndNoEnzymes(Check check) {
+        MashEnzymes mash = new MashEnzymes();
+        mash.grain(8, 0.5, 1);
+        mash.liquor(Double.MIN_VALUE, 70, 5.5);
+        mash.take(0.75);
+        check.is("water()", mash.water(), 0);
+        check.is("run(5)", mash.run(5), 5);
+        check.is("starch()", mash.starch(), 1);
+        for (int kind = 0; kind < 5; kind++) {
+            check.is("sugar(" + kind + ") without water and enzymes", mash.sugar(kind), 0);
         }
     }
 
