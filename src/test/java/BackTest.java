@@ -7,7 +7,12 @@ final class BackTest {
         restsWhileItIsOut(check);
         anyOrder(check);
         withoutAnyWater(check);
-        wrongInputsAreRefused(check);
+        aDecoctionWithoutWater(check);
+        thereIsNoSuchOne(check);
+        theFirstAndTheLastOfEight(check);
+        itIsBackAlready(check);
+        degreesAreAtLeastNothing(check);
+        degreesAreAtMostHundred(check);
         check.end();
     }
 
@@ -94,32 +99,116 @@ final class BackTest {
         check.is("water() again", mash.water(), Double.MIN_VALUE);
     }
 
-    private static void wrongInputsAreRefused(Check check) {
-        for (int decoction : new int[] {-1, 0, 2, 7, 8, Integer.MIN_VALUE, Integer.MAX_VALUE}) {
-            refused(check, decoction, 60);
-        }
-        double inf = Double.POSITIVE_INFINITY;
-        for (double degrees : new double[] {-Double.MIN_VALUE, -1, Math.nextUp(100.0), inf, -inf, Double.NaN}) {
-            refused(check, 1, degrees);
-        }
+    // No water comes back: the temperature is weighed by the water of the mash alone.
+    private static void aDecoctionWithoutWater(Check check) {
         MashEnzymes mash = new MashEnzymes();
-        firstIsBack(mash);
-        mash.back(1, 101);
-        check.is("back(1, 100) after a refusal", mash.back(1, 100), true);
+        mash.grain(8, 0.5, 0);
+        mash.liquor(Double.MIN_VALUE, 60, 5.5);
+        mash.take(0.25);
+        check.is("water() with all of it", mash.water(), Double.MIN_VALUE);
+        check.is("back(0, 90)", mash.back(0, 90), true);
+        check.is("degrees() without the decoction's", mash.degrees(), 60);
+        check.is("starch() with the decoction's", mash.starch(), 4);
+    }
+
+    private static void thereIsNoSuchOne(Check check) {
+        for (int decoction : new int[] {-1, 8, 9, Integer.MIN_VALUE, Integer.MAX_VALUE}) {
+            refusedInEveryState(check, decoction, 60);
+        }
+        refused(check, "back(0, 60) before any take", BackTest::told, 0, 60);
+        refused(check, "back(1, 60) after one take", BackTest::oneIsOut, 1, 60);
+        refused(check, "back(7, 60) after one take", BackTest::oneIsOut, 7, 60);
+        refused(check, "back(2, 60) after two takes", BackTest::firstIsBack, 2, 60);
+        refused(check, "back(0, 60) after a refused take", mash -> {
+            told(mash);
+            mash.take(1);
+        }, 0, 60);
+        refused(check, "back(8, 60) after nine takes", mash -> {
+            told(mash);
+            States.eightDecoctions(mash);
+            mash.take(0.125);
+        }, 8, 60);
+    }
+
+    private static void theFirstAndTheLastOfEight(Check check) {
+        MashEnzymes mash = new MashEnzymes();
+        told(mash);
+        States.eightDecoctions(mash);
+        double out = mash.water();
+        check.is("back(7, 60), the last", mash.back(7, 60), true);
+        check.near("water() with the last", mash.water(), out * 8 / 7);
+        check.is("back(0, 60), the first", mash.back(0, 60), true);
+        check.is("back(8, 60)", mash.back(8, 60), false);
+    }
+
+    private static void itIsBackAlready(Check check) {
+        refused(check, "back(0, 60) again", BackTest::firstIsBack, 0, 60);
+        refused(check, "back(7, 60) again", mash -> {
+            told(mash);
+            States.eightDecoctions(mash);
+            mash.back(7, 60);
+        }, 7, 60);
+        refused(check, "back(0, 60) again after another take", mash -> {
+            firstIsBack(mash);
+            mash.take(0.5);
+        }, 0, 60);
+    }
+
+    private static void degreesAreAtLeastNothing(Check check) {
+        for (double degrees : new double[] {0, -0.0, 0.125}) {
+            backFromHalf(check, degrees);
+        }
+        for (double degrees : new double[] {-Double.MIN_VALUE, -0.125, -1, Double.NEGATIVE_INFINITY}) {
+            wrongDegrees(check, degrees);
+        }
+    }
+
+    private static void degreesAreAtMostHundred(Check check) {
+        for (double degrees : new double[] {100, Math.nextDown(100.0)}) {
+            backFromHalf(check, degrees);
+        }
+        for (double degrees : new double[] {Math.nextUp(100.0), 100.125, 101, Double.POSITIVE_INFINITY, Double.NaN}) {
+            wrongDegrees(check, degrees);
+        }
+    }
+
+    private static void backFromHalf(Check check, double degrees) {
+        MashEnzymes mash = new MashEnzymes();
+        mash.grain(8, 0.5, 0);
+        mash.liquor(16, 60, 5.25);
+        mash.take(0.5);
+        check.is("back(0, " + degrees + ")", mash.back(0, degrees), true);
+        check.is("degrees() with " + degrees, mash.degrees(), (60.0 * 8 + degrees * 8) / 16);
+        check.is("water() with " + degrees, mash.water(), 16);
+    }
+
+    // Refused by its degrees alone, the decoction stays out and comes back later.
+    private static void wrongDegrees(Check check, double degrees) {
+        refusedInEveryState(check, 0, degrees);
+        refused(check, "back(1, " + degrees + ") of one that is out", BackTest::firstIsBack, 1, degrees);
+        MashEnzymes mash = new MashEnzymes();
+        oneIsOut(mash);
+        mash.back(0, degrees);
+        check.is("back(0, 100) after back(0, " + degrees + ")", mash.back(0, 100), true);
+    }
+
+    private static void oneIsOut(MashEnzymes mash) {
+        told(mash);
+        mash.take(0.25);
     }
 
     private static void firstIsBack(MashEnzymes mash) {
-        told(mash);
-        mash.take(0.25);
+        oneIsOut(mash);
         mash.take(0.5);
         mash.back(0, 70);
     }
 
-    private static void refused(Check check, int decoction, double degrees) {
+    private static void refusedInEveryState(Check check, int decoction, double degrees) {
         String call = "back(" + decoction + ", " + degrees + ")";
-        MashEnzymes mash = new MashEnzymes();
-        firstIsBack(mash);
-        check.is(call, mash.back(decoction, degrees), false);
-        check.changesNothing(call, BackTest::firstIsBack, again -> again.back(decoction, degrees));
+        check.refusedInEveryState(call, mash -> mash.back(decoction, degrees), false);
+    }
+
+    private static void refused(Check check, String call, Check.Calls before, int decoction, double degrees) {
+        check.refused(call, before, mash -> mash.back(decoction, degrees), false);
     }
 }

@@ -5,6 +5,11 @@ final class Check {
         void on(MashEnzymes mash);
     }
 
+    /** One call on an object, and its answer. */
+    interface Answer {
+        Object on(MashEnzymes mash);
+    }
+
     private static final int SUGARS = 5;
     private static final int ENZYMES = 4;
 
@@ -28,15 +33,40 @@ final class Check {
         }
     }
 
-    /** The refused calls must leave no trace, neither now nor in what the object does later. */
+    /** A call that no state makes right: it answers the same and changes nothing in each of them. */
+    void refusedInEveryState(String call, Answer refused, Object due) {
+        States.all().forEach((state, before) -> refused(call + " of " + state, before, refused, due));
+    }
+
+    /** A call that is refused after some others: it answers what is due, the second time too, and changes nothing. */
+    void refused(String call, Calls before, Answer refused, Object due) {
+        MashEnzymes mash = new MashEnzymes();
+        before.on(mash);
+        for (int time = 1; time <= 2; time++) {
+            Object got = refused.on(mash);
+            if (!got.equals(due)) {
+                report(call + ", time " + time, String.valueOf(got), String.valueOf(due));
+            }
+        }
+        changesNothing(call, before, refused::on);
+    }
+
+    /** The calls must leave no trace, neither now nor in what the object does later. */
     void changesNothing(String call, Calls before, Calls refused) {
-        MashEnzymes touched = new MashEnzymes();
-        MashEnzymes plain = new MashEnzymes();
-        before.on(touched);
-        before.on(plain);
+        MashEnzymes touched = after(before);
+        MashEnzymes plain = after(before);
         refused.on(touched);
         same(call + ", at once", touched, plain);
-        probe(call, touched, plain);
+        probeAll(call, touched, plain);
+        MashEnzymes touchedAgain = after(before);
+        refused.on(touchedAgain);
+        probeToldStarch(call, touchedAgain, after(before));
+    }
+
+    private static MashEnzymes after(Calls calls) {
+        MashEnzymes mash = new MashEnzymes();
+        calls.on(mash);
+        return mash;
     }
 
     void same(String call, MashEnzymes got, MashEnzymes due) {
@@ -59,10 +89,11 @@ final class Check {
         }
     }
 
-    // Brings to light what no method shows: second, steps, decoctions, acidity, protein, told starch.
-    private void probe(String call, MashEnzymes got, MashEnzymes due) {
+    // Brings to light what no method shows: second, steps, decoctions, acidity, protein, whether it is empty.
+    private void probeAll(String call, MashEnzymes got, MashEnzymes due) {
         is(call + ", then run(0)", got.run(0), due.run(0));
         is(call + ", then grain", got.grain(2, 0.5, 0), due.grain(2, 0.5, 0));
+        is(call + ", then run(0) with grain", got.run(0), due.run(0));
         is(call + ", then liquor", got.liquor(3, 58, 5.25), due.liquor(3, 58, 5.25));
         same(call + ", then grain and liquor", got, due);
         int second = due.run(3);
@@ -77,11 +108,25 @@ final class Check {
         for (int decoction = 0; decoction < 9; decoction++) {
             is(call + ", then back " + decoction, got.back(decoction, 80), due.back(decoction, 80));
         }
+        same(call + ", then all back", got, due);
         for (int decoction = 0; decoction < 9; decoction++) {
             is(call + ", then take", got.take(0.25), due.take(0.25));
         }
         is(call + ", then run(2000)", got.run(2000), due.run(2000));
         same(call + ", at last", got, due);
+    }
+
+    // Much alpha turns the starch second by second, so the told starch shows itself by when the mash is converted.
+    private void probeToldStarch(String call, MashEnzymes got, MashEnzymes due) {
+        for (MashEnzymes mash : new MashEnzymes[] {got, due}) {
+            mash.grain(2, 0.5, 0);
+            mash.liquor(3, 75, 5.5);
+            mash.enzyme(0, 1000);
+        }
+        for (int i = 0; i < 150; i++) {
+            is(call + ", then much alpha", got.run(2), due.run(2));
+            is(call + ", then much alpha: converted()", got.converted(), due.converted());
+        }
     }
 
     private void report(String call, String got, String due) {

@@ -7,6 +7,10 @@ final class ConvertedTest {
         gelledStarchCounts(check);
         toldStarchIsOfAllGrain(check);
         timeConverts(check);
+        toldInItsOrder(check);
+        theLimitIsOfBothStarches(check);
+        theLeastStarch(check);
+        convertedNoMore(check);
         check.end();
     }
 
@@ -69,11 +73,72 @@ final class ConvertedTest {
         boolean before = false;
         for (int minute = 1; minute <= 120; minute++) {
             mash.run(60);
-            boolean due = 128 * mash.starch() <= 6.25;
-            check.is("converted() at minute " + minute, mash.converted(), due);
-            check.is("conversion lasts at minute " + minute, before && !mash.converted(), false);
-            before = mash.converted();
+            boolean converted = mash.converted();
+            check.is("converted() at minute " + minute, converted, 128 * mash.starch() <= 6.25);
+            check.is("conversion lasts at minute " + minute, before && !converted, false);
+            before = converted;
         }
         check.is("converted() at last", before, true);
+    }
+
+    // 1000 kg and then 256 times half of their last binary place: in this order none of these moves the sum, in the
+    // other order they come to 256 half places, and what is left of the starch would be few enough.
+    private static void toldInItsOrder(Check check) {
+        double halfPlace = Math.ulp(1000.0) / 2;
+        MashEnzymes mash = new MashEnzymes();
+        mash.grain(1000, 1, 1);
+        for (int i = 0; i < 256; i++) {
+            mash.grain(halfPlace, 1, 1);
+        }
+        mash.liquor(8, 50, 5.5);
+        check.is("starch() in its order", mash.starch(), 1000);
+        mash.take(Math.nextDown(127 / 128.0));
+        double left = mash.starch();
+        check.is("what is left lies between", 1000 < 128 * left && 128 * left <= 1000 + 256 * halfPlace, true);
+        check.is("converted() by the sum in its order", mash.converted(), false);
+    }
+
+    // One of these two is the limit itself, by a sum of raw and gelled starch.
+    private static void theLimitIsOfBothStarches(Check check) {
+        MashEnzymes mash = halfGelled();
+        mash.take(127 / 128.0);
+        check.is("converted() of raw and gelled", mash.converted(), 128 * mash.starch() <= 4);
+        MashEnzymes more = halfGelled();
+        more.take(0.9921);
+        check.is("converted() of raw and gelled, above", more.converted(), false);
+        MashEnzymes less = halfGelled();
+        less.take(0.9922);
+        check.is("converted() of raw and gelled, below", less.converted(), true);
+    }
+
+    private static MashEnzymes halfGelled() {
+        MashEnzymes mash = new MashEnzymes();
+        mash.grain(8, 0.5, 1);
+        mash.liquor(8, 70, 5.5);
+        mash.run(22);
+        return mash;
+    }
+
+    // Grain of the least weight tells starch; 128 times it is more than it.
+    private static void theLeastStarch(Check check) {
+        MashEnzymes mash = new MashEnzymes();
+        mash.grain(Double.MIN_VALUE, 1, 1);
+        mash.liquor(8, 50, 5.5);
+        check.is("converted() of the least starch", mash.converted(), false);
+        mash.take(0.75);
+        check.is("starch() taken out", mash.starch(), 0);
+        check.is("converted() without it", mash.converted(), true);
+        mash.back(0, 50);
+        check.is("converted() with it back", mash.converted(), false);
+    }
+
+    // A mash that was converted is so no more when starch is told: only the starch of now counts.
+    private static void convertedNoMore(Check check) {
+        MashEnzymes mash = new MashEnzymes();
+        mash.grain(8, 0, 1);
+        mash.liquor(8, 50, 5.5);
+        check.is("converted() without starch", mash.converted(), true);
+        mash.grain(8, 0.5, 1);
+        check.is("converted() with starch", mash.converted(), false);
     }
 }

@@ -1,5 +1,7 @@
 /** Promise 2: grain. */
 final class GrainTest {
+    private static final double LEAST = Double.MIN_VALUE;
+    private static final double INF = Double.POSITIVE_INFINITY;
     private static final double NAN = Double.NaN;
 
     public static void main(String[] args) {
@@ -7,8 +9,12 @@ final class GrainTest {
         kindsBringTheirEnzymes(check);
         kindsBringTheirProtein(check);
         grainAddsUp(check);
-        edgesAreTaken(check);
-        wrongInputsAreRefused(check);
+        kgAreAboveNothing(check);
+        kgAreAtMostThousand(check);
+        starchIsAtLeastNothing(check);
+        starchIsAtMostAll(check);
+        kindsAreThree(check);
+        allWrongIsRefusedToo(check);
         check.end();
     }
 
@@ -49,36 +55,75 @@ final class GrainTest {
         check.is("enzymeLeft(3) of three grains", mash.enzymeLeft(3), 5);
     }
 
-    private static void edgesAreTaken(Check check) {
+    private static void kgAreAboveNothing(Check check) {
+        for (int kind = 0; kind < 3; kind++) {
+            MashEnzymes mash = new MashEnzymes();
+            check.is("grain(least, 1, " + kind + ")", mash.grain(LEAST, 1, kind), true);
+            check.is("starch() of the least grain", mash.starch(), LEAST);
+        }
         MashEnzymes mash = new MashEnzymes();
-        check.is("grain(1000, 1, 1)", mash.grain(1000, 1, 1), true);
-        check.is("grain(least, 0, 1)", mash.grain(Double.MIN_VALUE, 0, 1), true);
-        check.is("grain(1, -0.0, 0)", mash.grain(1, -0.0, 0), true);
-        check.is("starch()", mash.starch(), 1000);
-    }
-
-    private static void wrongInputsAreRefused(Check check) {
-        double[] wrongKg = {0, -0.0, -1, Math.nextUp(1000.0), Double.POSITIVE_INFINITY, Double.NEGATIVE_INFINITY, NAN};
-        for (double kg : wrongKg) {
+        mash.grain(LEAST, 1, 0);
+        double[] perKg = {1, 0.75, 0.25, 0.5};
+        for (int e = 0; e < 4; e++) {
+            check.is("enzymeLeft(" + e + ") of the least malt", mash.enzymeLeft(e), LEAST * perKg[e]);
+        }
+        for (double kg : new double[] {0, -0.0, -LEAST, -1, -1000, -INF}) {
             refused(check, kg, 0.5, 0);
         }
-        double[] wrongStarch = {-Double.MIN_VALUE, -1, Math.nextUp(1.0), Double.POSITIVE_INFINITY, NAN};
-        for (double starch : wrongStarch) {
+    }
+
+    private static void kgAreAtMostThousand(Check check) {
+        for (double kg : new double[] {1000, Math.nextDown(1000.0)}) {
+            MashEnzymes mash = new MashEnzymes();
+            check.is("grain(" + kg + ", 1, 2)", mash.grain(kg, 1, 2), true);
+            check.is("starch() of " + kg + " kg", mash.starch(), kg);
+            check.is("enzymeLeft(0) of " + kg + " kg", mash.enzymeLeft(0), kg * 0.5);
+        }
+        for (double kg : new double[] {Math.nextUp(1000.0), 1000.125, 1001, 1e300, INF, NAN}) {
+            refused(check, kg, 0.5, 0);
+        }
+    }
+
+    private static void starchIsAtLeastNothing(Check check) {
+        for (double starch : new double[] {0, -0.0, LEAST}) {
+            MashEnzymes mash = new MashEnzymes();
+            check.is("grain(8, " + starch + ", 0)", mash.grain(8, starch, 0), true);
+            check.is("starch() of 8 times " + starch, mash.starch(), 8 * starch);
+            check.is("enzymeLeft(0) of 8 kg with starch " + starch, mash.enzymeLeft(0), 8);
+        }
+        for (double starch : new double[] {-LEAST, -0.125, -1, -INF}) {
             refused(check, 5, starch, 0);
         }
-        int[] wrongKinds = {-1, 3, Integer.MIN_VALUE, Integer.MAX_VALUE};
-        for (int kind : wrongKinds) {
+    }
+
+    private static void starchIsAtMostAll(Check check) {
+        for (double starch : new double[] {1, Math.nextDown(1.0)}) {
+            MashEnzymes mash = new MashEnzymes();
+            check.is("grain(8, " + starch + ", 1)", mash.grain(8, starch, 1), true);
+            check.is("starch() of 8 times " + starch, mash.starch(), 8 * starch);
+        }
+        for (double starch : new double[] {Math.nextUp(1.0), 1.125, 2, INF, NAN}) {
+            refused(check, 5, starch, 0);
+        }
+    }
+
+    private static void kindsAreThree(Check check) {
+        check.is("grain(1, 1, 0), the first kind", new MashEnzymes().grain(1, 1, 0), true);
+        check.is("grain(1, 1, 2), the last kind", new MashEnzymes().grain(1, 1, 2), true);
+        for (int kind : new int[] {-1, 3, 4, Integer.MIN_VALUE, Integer.MAX_VALUE}) {
             refused(check, 5, 0.5, kind);
         }
-        MashEnzymes mash = new MashEnzymes();
-        mash.grain(0, 0.5, 0);
-        mash.liquor(1, 50, 5.5);
-        check.is("run(1) with refused grain alone", mash.run(1), MashEnzymes.NONE);
+    }
+
+    // One right argument must not save a wrong one.
+    private static void allWrongIsRefusedToo(Check check) {
+        refused(check, 0, 2, 3);
+        refused(check, 2000, -1, -1);
+        refused(check, NAN, NAN, 0);
     }
 
     private static void refused(Check check, double kg, double starch, int kind) {
         String call = "grain(" + kg + ", " + starch + ", " + kind + ")";
-        check.is(call, new MashEnzymes().grain(kg, starch, kind), false);
-        check.changesNothing(call, mash -> mash.liquor(3, 55, 5.5), mash -> mash.grain(kg, starch, kind));
+        check.refusedInEveryState(call, mash -> mash.grain(kg, starch, kind), false);
     }
 }

@@ -3,7 +3,9 @@ final class NewObjectTest {
     public static void main(String[] args) {
         Check check = new Check();
         allIsNothing(check);
-        nothingIsKnown(check);
+        itIsSecond0(check);
+        thereAreNoSteps(check);
+        thereAreNoDecoctions(check);
         objectsAreApart(check);
         check.end();
     }
@@ -24,14 +26,35 @@ final class NewObjectTest {
         check.is("take(0.5)", mash.take(0.5), MashEnzymes.NONE);
     }
 
-    private static void nothingIsKnown(Check check) {
+    private static void itIsSecond0(Check check) {
         MashEnzymes mash = new MashEnzymes();
-        check.is("back(0, 50)", mash.back(0, 50), false);
         check.is("step(0, 50)", mash.step(0, 50), false);
         check.is("step(1, 50)", mash.step(1, 50), true);
-        mash.grain(1, 0.5, 0);
-        mash.liquor(1, 50, 5.5);
+        States.mash(mash);
         check.is("run(0) at second 0", mash.run(0), 0);
+        check.is("run(1) at second 0", mash.run(1), 1);
+    }
+
+    private static void thereAreNoSteps(Check check) {
+        MashEnzymes mash = new MashEnzymes();
+        States.mash(mash);
+        mash.run(100_000);
+        check.is("degrees() is not heated", mash.degrees(), 52);
+        MashEnzymes other = new MashEnzymes();
+        for (int second = 1; second <= 32; second++) {
+            check.is("step " + second + " of 32", other.step(second, 50), true);
+        }
+    }
+
+    private static void thereAreNoDecoctions(Check check) {
+        MashEnzymes mash = new MashEnzymes();
+        for (int decoction = 0; decoction < 9; decoction++) {
+            check.is("back(" + decoction + ", 50)", mash.back(decoction, 50), false);
+        }
+        States.mash(mash);
+        for (int decoction = 0; decoction < 8; decoction++) {
+            check.is("take(0.5)", mash.take(0.5), decoction);
+        }
     }
 
     private static void objectsAreApart(Check check) {

@@ -1,9 +1,14 @@
 import java.util.Random;
 
-/** All promises: long runs of calls drawn by a fixed seed, each answer held against the plain model's. */
+/**
+ * All promises: runs of calls drawn by a fixed seed, each answer held against the plain model's. No object is used for
+ * more than 512 calls.
+ */
 final class RandomRunsTest {
-    private static final int OBJECTS = 600;
-    private static final int CALLS = 250;
+    private static final int OBJECTS = 3000;
+    private static final int LONG_OBJECTS = 12;
+    private static final int MOST_CALLS = 512;
+    private static final int READINGS = 4 + 2 * 7;
     private static final double[] ODD = {
         0, -0.0, -1, 1, Double.MIN_VALUE, -Double.MIN_VALUE, 1e-310, 1e-160, 3, 8, 100, 1000, 10000, 1e300, -1e300,
         Double.NaN, Double.POSITIVE_INFINITY, Double.NEGATIVE_INFINITY};
@@ -15,28 +20,45 @@ final class RandomRunsTest {
     private final MashEnzymes mash = new MashEnzymes();
     private final PlainModel model = new PlainModel();
     private final String name;
+    private final boolean isLong;
 
     private RandomRunsTest(int seed) {
         random = new Random(seed);
         name = "seed " + seed + ", call ";
+        isLong = seed < LONG_OBJECTS;
     }
 
     public static void main(String[] args) {
         for (int seed = 0; seed < OBJECTS; seed++) {
             RandomRunsTest run = new RandomRunsTest(seed);
-            for (int call = 0; call < CALLS; call++) {
-                run.call(run.name + call);
-            }
+            run.allCalls();
             run.check.end();
         }
     }
 
+    private void allCalls() {
+        int calls = 0;
+        while (calls + 3 + READINGS <= MOST_CALLS) {
+            call(name + calls);
+            compareOneReading(name + (calls + 1), random.nextInt(READINGS));
+            compareOneReading(name + (calls + 2), random.nextInt(READINGS));
+            calls += 3;
+        }
+        for (int reading = 0; reading < READINGS; reading++) {
+            compareOneReading(name + (calls + reading), reading);
+        }
+    }
+
     private double number(double from, double to) {
-        int dice = random.nextInt(24);
+        int dice = random.nextInt(48);
         if (dice == 0) {
             return ODD[random.nextInt(ODD.length)];
         }
         if (dice < 4) {
+            double edge = random.nextBoolean() ? from : to;
+            return random.nextBoolean() ? edge : random.nextBoolean() ? Math.nextUp(edge) : Math.nextDown(edge);
+        }
+        if (dice < 10) {
             return from + Math.rint((to - from) * random.nextDouble());
         }
         return from + (to - from) * random.nextDouble();
@@ -56,7 +78,6 @@ final class RandomRunsTest {
             case 5 -> bringBack(at);
             default -> letRun(at);
         }
-        compareReadings(at);
     }
 
     private void tellGrain(String at) {
@@ -97,18 +118,24 @@ final class RandomRunsTest {
     }
 
     private void letRun(String at) {
-        int seconds = random.nextInt(200) == 0 ? whole(20_000) : random.nextInt(60);
+        int seconds = isLong ? whole(100_002) : random.nextInt(200) == 0 ? whole(20_000) : random.nextInt(60);
         check.is(at + ": run", mash.run(seconds), model.run(seconds));
     }
 
-    private void compareReadings(String at) {
-        check.is(at + ": degrees", mash.degrees(), model.degrees());
-        check.is(at + ": water", mash.water(), model.water());
-        check.is(at + ": starch", mash.starch(), model.starch());
-        check.is(at + ": converted", mash.converted(), model.converted());
-        for (int kind = -1; kind < 6; kind++) {
-            check.is(at + ": sugar " + kind, mash.sugar(kind), model.sugar(kind));
-            check.is(at + ": enzymeLeft " + kind, mash.enzymeLeft(kind), model.enzymeLeft(kind));
+    private void compareOneReading(String at, int reading) {
+        int kind = reading / 2 - 3;
+        switch (reading) {
+            case 0 -> check.is(at + ": degrees", mash.degrees(), model.degrees());
+            case 1 -> check.is(at + ": water", mash.water(), model.water());
+            case 2 -> check.is(at + ": starch", mash.starch(), model.starch());
+            case 3 -> check.is(at + ": converted", mash.converted(), model.converted());
+            default -> {
+                if (reading % 2 == 0) {
+                    check.is(at + ": sugar " + kind, mash.sugar(kind), model.sugar(kind));
+                } else {
+                    check.is(at + ": enzymeLeft " + kind, mash.enzymeLeft(kind), model.enzymeLeft(kind));
+                }
+            }
         }
     }
 }

@@ -2,7 +2,9 @@
 final class ReadingsTest {
     public static void main(String[] args) {
         Check check = new Check();
-        otherKindsAnswerMinusOne(check);
+        sugarsAreFive(check);
+        enzymesAreFour(check);
+        emptyIsReadToo(check);
         eachReadingIsItsOwn(check);
         starchIsRawAndGelled(check);
         decoctionsAreNotInTheMash(check);
@@ -19,17 +21,43 @@ final class ReadingsTest {
         mash.enzyme(3, 4);
     }
 
-    private static void otherKindsAnswerMinusOne(Check check) {
+    private static void sugarsAreFive(Check check) {
         MashEnzymes mash = new MashEnzymes();
         told(mash);
-        for (int kind : new int[] {-1, 5, 6, Integer.MIN_VALUE, Integer.MAX_VALUE}) {
-            check.is("sugar(" + kind + ")", mash.sugar(kind), -1);
+        mash.run(1);
+        check.is("sugar(0), the first kind, is above 0", mash.sugar(0) > 0, true);
+        check.is("sugar(4), the last kind, is above 0", mash.sugar(4) > 0, true);
+        for (int kind : new int[] {-1, 5, 6, 8, Integer.MIN_VALUE, Integer.MAX_VALUE}) {
+            check.refusedInEveryState("sugar(" + kind + ")", any -> any.sugar(kind), -1.0);
         }
-        for (int kind : new int[] {-1, 4, 5, Integer.MIN_VALUE, Integer.MAX_VALUE}) {
-            check.is("enzymeLeft(" + kind + ")", mash.enzymeLeft(kind), -1);
+    }
+
+    private static void enzymesAreFour(Check check) {
+        MashEnzymes mash = new MashEnzymes();
+        told(mash);
+        check.is("enzymeLeft(0), the first kind", mash.enzymeLeft(0), 32);
+        check.is("enzymeLeft(3), the last kind", mash.enzymeLeft(3), 4);
+        for (int kind : new int[] {-1, 4, 5, 8, Integer.MIN_VALUE, Integer.MAX_VALUE}) {
+            check.refusedInEveryState("enzymeLeft(" + kind + ")", any -> any.enzymeLeft(kind), -1.0);
         }
-        check.is("sugar(-1) of an empty mash", new MashEnzymes().sugar(-1), -1);
-        check.is("enzymeLeft(4) of an empty mash", new MashEnzymes().enzymeLeft(4), -1);
+    }
+
+    // An empty mash is read like any other.
+    private static void emptyIsReadToo(Check check) {
+        MashEnzymes grain = new MashEnzymes();
+        grain.grain(8, 0.5, 2);
+        check.is("starch() of grain alone", grain.starch(), 4);
+        check.is("enzymeLeft(0) of grain alone", grain.enzymeLeft(0), 4);
+        check.is("water() of grain alone", grain.water(), 0);
+        check.is("degrees() of grain alone", grain.degrees(), 0);
+        check.is("sugar(0) of grain alone", grain.sugar(0), 0);
+        MashEnzymes liquor = new MashEnzymes();
+        liquor.liquor(8, 50, 5.5);
+        check.is("starch() of liquor alone", liquor.starch(), 0);
+        check.is("enzymeLeft(0) of liquor alone", liquor.enzymeLeft(0), 0);
+        check.is("water() of liquor alone", liquor.water(), 8);
+        check.is("degrees() of liquor alone", liquor.degrees(), 50);
+        check.is("sugar(4) of liquor alone", liquor.sugar(4), 0);
     }
 
     private static void eachReadingIsItsOwn(Check check) {

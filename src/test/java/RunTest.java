@@ -1,130 +1,26 @@
-/** Promise 6: run, and what a second does by each of the rows. */
+/** Promise 6: run, and what a second does. */
 final class RunTest {
-    private static final double[] MARKS = {0, 40, 50, 60, 65, 70, 75, 80, 90};
-    private static final int[][] RATES = {
-        {0, 1, 2, 4, 6, 8, 7, 4, 0},
-        {0, 2, 4, 8, 7, 3, 1, 0, 0},
-        {0, 2, 6, 8, 4, 1, 0, 0, 0},
-        {0, 4, 8, 6, 3, 1, 0, 0, 0}};
-    private static final int[] GELLING = {0, 0, 2, 16, 64, 128, 160, 200, 255};
-    private static final int[][] DECAYS = {
-        {0, 0, 0, 0, 1, 4, 16, 64, 255},
-        {0, 0, 0, 4, 16, 64, 128, 200, 255},
-        {0, 0, 1, 16, 64, 128, 200, 255, 255},
-        {0, 0, 4, 32, 64, 128, 200, 255, 255}};
+    private static final double LITTLE = 0.0078125;
 
     public static void main(String[] args) {
         Check check = new Check();
-        for (int mark = 0; mark < MARKS.length; mark++) {
-            allRows(check, MARKS[mark], mark, mark);
-        }
-        for (int mark = 0; mark + 1 < MARKS.length; mark++) {
-            allRows(check, (MARKS[mark] + MARKS[mark + 1]) / 2, mark, mark + 1);
-        }
-        allRows(check, 95, 8, 8);
-        allRows(check, 100, 8, 8);
-        quarterOfTheWay(check);
         oneWholeSecond(check);
         proteinIsUsedUp(check);
-        littleWaterHolds(check);
+        littleWaterIsTheBound(check);
+        muchWaterIsNoBound(check);
+        theLesserIsSplit(check);
         noWaterAndNoEnzymes(check);
+        noWaterButEnzymes(check);
+        theLeastEnzyme(check);
+        acidityAtItsEdges(check);
         secondsAddUp(check);
-        limitsOfTime(check);
-        wrongInputsAreRefused(check);
+        noSecondsChangeNothing(check);
+        secondsAreAtLeastNone(check);
+        secondsAreAtMostHundredThousand(check);
+        theLastSecondIsReached(check);
+        nothingIsBeyondTheLastSecond(check);
+        emptyIsRefused(check);
         check.end();
-    }
-
-    /** All values at so many degrees, which lie on a mark or half way between two. */
-    private static void allRows(Check check, double degrees, int mark, int nextMark) {
-        for (int e = 0; e < 4; e++) {
-            decay(check, e, degrees, (DECAYS[e][mark] + DECAYS[e][nextMark]) / 2.0);
-            rate(check, e, degrees, (RATES[e][mark] + RATES[e][nextMark]) / 2.0);
-        }
-        gelling(check, degrees, (GELLING[mark] + GELLING[nextMark]) / 2.0);
-    }
-
-    private static void decay(Check check, int e, double degrees, double parts) {
-        MashEnzymes mash = new MashEnzymes();
-        mash.grain(1, 0, 1);
-        mash.liquor(8, degrees, 5.5);
-        mash.enzyme(e, 512);
-        mash.run(1);
-        check.is("decay " + e + " at " + degrees, mash.enzymeLeft(e), 512 - parts / 8);
-    }
-
-    // With eight of the enzyme and eight of water, x is the rate in eighths itself.
-    private static void rate(Check check, int e, double degrees, double eighths) {
-        MashEnzymes mash = e == 0 ? gelled() : e == 3 ? raw() : dextrins();
-        int second = mash.run(0);
-        double gelled = mash.starch();
-        double dextrins = mash.sugar(3);
-        mash.step(second + 1, degrees);
-        mash.enzyme(e, 8);
-        mash.run(1);
-        check.is("degrees()", mash.degrees(), degrees);
-        double part = eighths / (eighths + 8) * 0.0625;
-        String name = "rate " + e + " at " + degrees;
-        if (e == 0) {
-            check.is(name + ", maltotriose", mash.sugar(2), gelled * part * 0.25);
-            check.is(name + ", dextrins", mash.sugar(3), gelled * part * 0.75);
-        } else if (e == 1) {
-            check.is(name + ", maltose", mash.sugar(1), dextrins * part * 1.0625);
-            check.is(name + ", water", mash.water(), 8 - dextrins * part * 0.0625);
-            check.is(name + ", dextrins", mash.sugar(3), dextrins - dextrins * part);
-        } else if (e == 2) {
-            check.is(name + ", glucose", mash.sugar(0), dextrins * part * 1.125);
-            check.is(name + ", water", mash.water(), 8 - dextrins * part * 0.125);
-            check.is(name + ", dextrins", mash.sugar(3), dextrins - dextrins * part);
-        } else {
-            check.is(name + ", amino acids", mash.sugar(4), 0.5 * part);
-        }
-    }
-
-    private static MashEnzymes raw() {
-        MashEnzymes mash = new MashEnzymes();
-        mash.grain(8, 0.125, 1);
-        mash.liquor(8, 80, 5.5);
-        return mash;
-    }
-
-    private static MashEnzymes gelled() {
-        MashEnzymes mash = raw();
-        mash.run(4000);
-        return mash;
-    }
-
-    /** Starch turned by alpha, which has then decayed too far to split anything more. */
-    private static MashEnzymes dextrins() {
-        MashEnzymes mash = raw();
-        mash.enzyme(0, 1000);
-        mash.run(100_000);
-        return mash;
-    }
-
-    // One second to gel, then a second at 70 degrees, where alpha's rate is 1, to show how much there is.
-    private static void gelling(Check check, double degrees, double parts) {
-        MashEnzymes mash = new MashEnzymes();
-        mash.grain(8, 0.5, 1);
-        mash.liquor(8, degrees, 5.5);
-        mash.run(1);
-        check.is("starch() is still whole at " + degrees, mash.starch(), 4);
-        mash.enzyme(0, 8);
-        mash.step(2, 70);
-        mash.run(1);
-        double first = 4 * (parts / 4096);
-        double gelled = first + (4 - first) * (128 / 4096.0);
-        check.is("gelling at " + degrees, mash.sugar(2), gelled * 0.03125 * 0.25);
-    }
-
-    private static void quarterOfTheWay(Check check) {
-        MashEnzymes mash = new MashEnzymes();
-        mash.grain(1, 0, 1);
-        mash.liquor(8, 62.3, 5.5);
-        mash.enzyme(1, 500);
-        mash.run(1);
-        double u = 4 / 4096.0;
-        double v = 16 / 4096.0;
-        check.is("decay 1 at 62.3", mash.enzymeLeft(1), 500 - 500 * (u + (v - u) * (62.3 - 60) / (65 - 60)));
     }
 
     // 60 degrees, acidity 5.5, 16 of water, and enzymes that give x = 16, 16, 16 and 12.
@@ -172,23 +68,66 @@ final class RunTest {
         }
     }
 
-    // At most eight of dextrins per water are split by beta, two by limit: half, or three quarters, of the water stay.
-    private static void littleWaterHolds(Check check) {
-        for (int e = 1; e <= 2; e++) {
-            MashEnzymes mash = new MashEnzymes();
-            mash.grain(1000, 1, 1);
-            mash.liquor(0.0078125, 60, 5.5);
-            mash.enzyme(0, 1000);
-            mash.run(100_000);
-            mash.enzyme(e, 1000);
-            double dextrins = mash.sugar(3);
-            mash.run(1);
-            double water = 0.0078125;
-            check.is("water() held by enzyme " + e, mash.water(), e == 1 ? water / 2 : water * 0.75);
-            check.is("sugar held by enzyme " + e, e == 1 ? mash.sugar(1) : mash.sugar(0),
-                e == 1 ? water * 8 * 1.0625 : water * 2 * 1.125);
-            check.is("dextrins held by enzyme " + e, mash.sugar(3), dextrins - water * (e == 1 ? 8 : 2));
+    // Half of the water stays when eight of dextrins per water are split by beta, three quarters with two by limit.
+    private static void littleWaterIsTheBound(Check check) {
+        for (double water : new double[] {LITTLE * 0.5, LITTLE, 3 * LITTLE, 1}) {
+            MashEnzymes beta = ofDextrins(water);
+            splitOnce(check, beta, 1, beta.water() * 8);
+            check.is("water() left by beta", beta.water(), water * 0.5);
+            MashEnzymes limit = ofDextrins(water);
+            splitOnce(check, limit, 2, limit.water() * 2);
+            check.is("water() left by limit", limit.water(), water * 0.75);
         }
+    }
+
+    private static void muchWaterIsNoBound(Check check) {
+        for (double water : new double[] {100, 10_000}) {
+            for (int e = 1; e <= 2; e++) {
+                MashEnzymes mash = ofDextrins(water);
+                splitOnce(check, mash, e, wanted(mash));
+            }
+        }
+    }
+
+    // Litre by litre from where the water is the bound to where it is not.
+    private static void theLesserIsSplit(Check check) {
+        for (int water = 1; water <= 30; water++) {
+            MashEnzymes beta = ofDextrins(water);
+            splitOnce(check, beta, 1, Math.min(wanted(beta), beta.water() * 8));
+            MashEnzymes limit = ofDextrins(water);
+            splitOnce(check, limit, 2, Math.min(wanted(limit), limit.water() * 2));
+        }
+    }
+
+    private static double wanted(MashEnzymes mash) {
+        return mash.sugar(3) * (1000 / (1000 + mash.water()) * 0.0625);
+    }
+
+    private static void splitOnce(Check check, MashEnzymes mash, int e, double due) {
+        double dextrins = mash.sugar(3);
+        double water = mash.water();
+        mash.enzyme(e, 1000);
+        mash.run(1);
+        String name = "enzyme " + e + " with water " + water;
+        check.is(name + ", dextrins", mash.sugar(3), dextrins - due);
+        check.is(name + ", sugar", mash.sugar(e == 1 ? 1 : 0), due * (e == 1 ? 1.0625 : 1.125));
+        check.is(name + ", water", mash.water(), water - due * (e == 1 ? 0.0625 : 0.125));
+    }
+
+    /** Much dextrins, no enzyme that could do more, so much water, at 60 degrees, where beta and limit work fully. */
+    private static MashEnzymes ofDextrins(double water) {
+        MashEnzymes mash = new MashEnzymes();
+        mash.grain(1000, 1, 1);
+        mash.liquor(LITTLE, 80, 5.5);
+        mash.enzyme(0, 1000);
+        mash.run(100_000);
+        if (water > LITTLE) {
+            mash.liquor(water - LITTLE, 80, 5.5);
+        } else if (water < LITTLE) {
+            mash.take(1 - water / LITTLE);
+        }
+        mash.step(100_001, 60);
+        return mash;
     }
 
     // Three quarters of the least double round to all of it, so no water stays: nothing may divide by it.
@@ -205,6 +144,64 @@ final class RunTest {
         }
     }
 
+    // x / (x + 0) is 1: the enzymes work fully, but beta and limit have no water to use up.
+    private static void noWaterButEnzymes(Check check) {
+        MashEnzymes mash = new MashEnzymes();
+        mash.grain(64, 1, 1);
+        mash.liquor(Double.MIN_VALUE, 60, 5.5);
+        mash.take(0.75);
+        for (int e = 0; e < 4; e++) {
+            mash.enzyme(e, 8);
+        }
+        check.is("run(1)", mash.run(1), 1);
+        double gelled = 16 * (16 / 4096.0);
+        check.is("sugar(2) without water", mash.sugar(2), gelled * 0.0625 * 0.25);
+        check.is("sugar(3) without water", mash.sugar(3), gelled * 0.0625 * 0.75);
+        check.is("sugar(4) without water", mash.sugar(4), 0.0625);
+        check.is("sugar(0) without water", mash.sugar(0), 0);
+        check.is("sugar(1) without water", mash.sugar(1), 0);
+        check.is("water() stays none", mash.water(), 0);
+    }
+
+    // The least enzyme is above 0, but its part of a second is lost to rounding.
+    private static void theLeastEnzyme(Check check) {
+        MashEnzymes mash = new MashEnzymes();
+        mash.grain(64, 0, 1);
+        mash.liquor(16, 50, 5.5);
+        mash.enzyme(3, Double.MIN_VALUE);
+        mash.run(1);
+        check.is("sugar(4)", mash.sugar(4), 4 * (Double.MIN_VALUE / 16 * 0.0625));
+        check.is("enzymeLeft(3)", mash.enzymeLeft(3), Double.MIN_VALUE);
+    }
+
+    // From 3.5 to 7.5 the enzymes work; at these and beyond them they do not.
+    private static void acidityAtItsEdges(Check check) {
+        for (double acidity : new double[] {3.5, 7.5, Math.nextDown(3.5), Math.nextUp(7.5), 3, 8}) {
+            MashEnzymes mash = ofAcidity(acidity);
+            mash.run(5);
+            for (int kind = 0; kind < 5; kind++) {
+                check.is("sugar(" + kind + ") at acidity " + acidity, mash.sugar(kind), 0);
+            }
+            check.is("starch() at acidity " + acidity, mash.starch(), 64);
+        }
+        for (double acidity : new double[] {3.5625, 7.4375, 3.51, 7.49, 5.5}) {
+            MashEnzymes mash = ofAcidity(acidity);
+            mash.run(1);
+            double x = 16 * 0.75 * (1 - (acidity - 5.5) * (acidity - 5.5) * 0.25);
+            check.is("sugar(4) at acidity " + acidity, mash.sugar(4), 4 * (x / (x + 16) * 0.0625));
+        }
+    }
+
+    private static MashEnzymes ofAcidity(double acidity) {
+        MashEnzymes mash = new MashEnzymes();
+        mash.grain(64, 1, 1);
+        mash.liquor(16, 60, acidity);
+        for (int e = 0; e < 4; e++) {
+            mash.enzyme(e, 16);
+        }
+        return mash;
+    }
+
     private static void secondsAddUp(Check check) {
         MashEnzymes one = new MashEnzymes();
         MashEnzymes many = new MashEnzymes();
@@ -219,47 +216,101 @@ final class RunTest {
             check.is("run(1)", many.run(1), second);
         }
         check.same("250 seconds in one and in many", one, many);
-        check.is("run(0)", one.run(0), 250);
-        check.same("run(0)", one, many);
     }
 
-    private static void limitsOfTime(Check check) {
-        MashEnzymes mash = raw();
-        for (int i = 1; i <= 9; i++) {
+    private static void noSecondsChangeNothing(Check check) {
+        MashEnzymes mash = new MashEnzymes();
+        States.mash(mash);
+        check.is("run(0) at second 0", mash.run(0), 0);
+        mash.run(7);
+        check.is("run(0) at second 7", mash.run(0), 7);
+        check.changesNothing("run(0)", States::mash, again -> again.run(0));
+        check.changesNothing("run(0) before a step", again -> {
+            States.mash(again);
+            again.step(1, 90);
+        }, again -> again.run(0));
+    }
+
+    private static void secondsAreAtLeastNone(Check check) {
+        for (int seconds : new int[] {-1, -2, -100_000, Integer.MIN_VALUE}) {
+            refusedInEveryState(check, seconds);
+        }
+        check.refused("run(-1) at second 10", RunTest::atSecondTen, mash -> mash.run(-1), MashEnzymes.NONE);
+        check.refused("run(-10) at second 10", RunTest::atSecondTen, mash -> mash.run(-10), MashEnzymes.NONE);
+    }
+
+    private static void secondsAreAtMostHundredThousand(Check check) {
+        for (int seconds : new int[] {99_999, 100_000}) {
+            MashEnzymes mash = new MashEnzymes();
+            States.mash(mash);
+            check.is("run(" + seconds + ")", mash.run(seconds), seconds);
+        }
+        for (int seconds : new int[] {100_001, 1_000_000, 1_000_001, Integer.MAX_VALUE}) {
+            refusedInEveryState(check, seconds);
+        }
+        check.refused("run(100001) at second 10", RunTest::atSecondTen, mash -> mash.run(100_001), MashEnzymes.NONE);
+    }
+
+    private static void atSecondTen(MashEnzymes mash) {
+        States.mash(mash);
+        mash.run(10);
+    }
+
+    private static void refusedInEveryState(Check check, int seconds) {
+        check.refusedInEveryState("run(" + seconds + ")", mash -> mash.run(seconds), MashEnzymes.NONE);
+    }
+
+    private static void theLastSecondIsReached(Check check) {
+        MashEnzymes mash = new MashEnzymes();
+        States.mash(mash);
+        for (int i = 1; i <= 10; i++) {
             check.is("run(100000)", mash.run(100_000), i * 100_000);
         }
-        check.is("run(99999)", mash.run(99_999), 999_999);
-        check.is("run(2) beyond the last second", mash.run(2), MashEnzymes.NONE);
-        check.is("run(100000) beyond the last second", mash.run(100_000), MashEnzymes.NONE);
-        check.is("run(1) to the last second", mash.run(1), 1_000_000);
-        check.is("run(1) beyond it", mash.run(1), MashEnzymes.NONE);
         check.is("run(0) at the last second", mash.run(0), 1_000_000);
-        check.is("step(1000000, 50) at the last second", mash.step(1_000_000, 50), false);
+        check.is("run(1) at the last second", mash.run(1), MashEnzymes.NONE);
+        check.is("run(0) at the last second again", mash.run(0), 1_000_000);
     }
 
-    private static void wrongInputsAreRefused(Check check) {
-        for (int seconds : new int[] {-1, 100_001, Integer.MIN_VALUE, Integer.MAX_VALUE}) {
-            check.is("run(" + seconds + ")", raw().run(seconds), MashEnzymes.NONE);
-            check.changesNothing("run(" + seconds + ")", mash -> mash.grain(1, 1, 0), mash -> mash.run(seconds));
-            Check.Calls before = mash -> {
-                mash.grain(8, 0.5, 0);
-                mash.liquor(20, 64, 5.5);
-                mash.run(10);
-            };
-            check.changesNothing("run(" + seconds + ")", before, mash -> mash.run(seconds));
+    private static void nothingIsBeyondTheLastSecond(Check check) {
+        for (int seconds : new int[] {1, 2, 99_999, 100_000}) {
+            check.refused("run(" + seconds + ") at the last second", States::atTheLastSecond,
+                mash -> mash.run(seconds), MashEnzymes.NONE);
         }
-        Check.Calls heated = mash -> {
+        for (int seconds : new int[] {4, 5, 100_000}) {
+            check.refused("run(" + seconds + ") three seconds before the last", RunTest::threeBeforeTheLast,
+                mash -> mash.run(seconds), MashEnzymes.NONE);
+        }
+        MashEnzymes mash = new MashEnzymes();
+        threeBeforeTheLast(mash);
+        check.is("run(2)", mash.run(2), 999_999);
+        check.is("run(2) beyond the last second", mash.run(2), MashEnzymes.NONE);
+        check.is("run(0)", mash.run(0), 999_999);
+        check.is("run(1) to the last second", mash.run(1), 1_000_000);
+    }
+
+    private static void threeBeforeTheLast(MashEnzymes mash) {
+        States.mash(mash);
+        for (int i = 0; i < 9; i++) {
+            mash.run(100_000);
+        }
+        mash.run(99_997);
+    }
+
+    // No time goes by, so a step stays as far away as it was.
+    private static void emptyIsRefused(Check check) {
+        Check.Calls grainAndStep = mash -> {
             mash.grain(8, 0.5, 0);
             mash.step(5, 60);
         };
-        check.changesNothing("run(3) of an empty mash", heated, mash -> mash.run(3));
-        check.is("run(3) without grain", emptyAnswer(mash -> mash.liquor(1, 50, 5.5)), MashEnzymes.NONE);
-        check.is("run(3) without liquor", emptyAnswer(mash -> mash.grain(1, 0.5, 0)), MashEnzymes.NONE);
-    }
-
-    private static int emptyAnswer(Check.Calls calls) {
-        MashEnzymes mash = new MashEnzymes();
-        calls.on(mash);
-        return mash.run(3);
+        Check.Calls liquorAndStep = mash -> {
+            mash.liquor(8, 50, 5.5);
+            mash.step(5, 60);
+        };
+        for (int seconds : new int[] {0, 1, 5, 100_000}) {
+            String call = "run(" + seconds + ") of ";
+            check.refused(call + "nothing", mash -> { }, mash -> mash.run(seconds), MashEnzymes.NONE);
+            check.refused(call + "grain", grainAndStep, mash -> mash.run(seconds), MashEnzymes.NONE);
+            check.refused(call + "liquor", liquorAndStep, mash -> mash.run(seconds), MashEnzymes.NONE);
+        }
     }
 }

@@ -5,9 +5,13 @@ final class TakeTest {
         theShareIsTakenOut(check);
         hiddenPartsAreTakenToo(check);
         eightAreAll(check);
+        decoctionsBackStillCount(check);
+        refusedTakesDoNotCount(check);
         refusedBeforeFull(check);
-        shareNextToTheEdges(check);
-        wrongInputsAreRefused(check);
+        shareIsAboveNothing(check);
+        shareIsBelowAll(check);
+        emptyIsRefused(check);
+        atTheLastSecond(check);
         check.end();
     }
 
@@ -53,62 +57,102 @@ final class TakeTest {
         MashEnzymes mash = new MashEnzymes();
         told(mash);
         for (int number = 0; number < 8; number++) {
-            check.is("take(0.125)", mash.take(0.125), number);
-            if (number % 2 == 0) {
-                mash.back(number, 70);
-            }
+            check.is("take " + number, mash.take(0.125), number);
         }
-        double water = mash.water();
-        check.is("take(0.125) after eight", mash.take(0.125), MashEnzymes.FULL);
-        check.is("water() after FULL", mash.water(), water);
-        mash.back(7, 70);
-        check.is("take(0.125) after eight, some back", mash.take(0.125), MashEnzymes.FULL);
-        check.changesNothing("take when full", TakeTest::full, again -> again.take(0.5));
+        check.is("the ninth take", mash.take(0.125), MashEnzymes.FULL);
+        for (double share : new double[] {0.5, Double.MIN_VALUE, Math.nextDown(1.0)}) {
+            check.refused("the ninth take(" + share + ")", TakeTest::full, again -> again.take(share),
+                MashEnzymes.FULL);
+        }
+    }
+
+    private static void decoctionsBackStillCount(Check check) {
+        MashEnzymes mash = new MashEnzymes();
+        told(mash);
+        for (int number = 0; number < 8; number++) {
+            check.is("take " + number, mash.take(0.125), number);
+            check.is("back " + number, mash.back(number, 70), true);
+        }
+        check.is("the ninth take, all back", mash.take(0.125), MashEnzymes.FULL);
+        check.refused("the ninth take, some back", again -> {
+            full(again);
+            again.back(0, 70);
+            again.back(7, 70);
+        }, again -> again.take(0.5), MashEnzymes.FULL);
+    }
+
+    private static void refusedTakesDoNotCount(Check check) {
+        MashEnzymes mash = new MashEnzymes();
+        mash.take(0.5);
+        told(mash);
+        for (int number = 0; number < 8; number++) {
+            mash.take(0);
+            mash.take(1);
+            check.is("take " + number + " after refused ones", mash.take(0.125), number);
+        }
     }
 
     private static void full(MashEnzymes mash) {
         told(mash);
-        for (int i = 0; i < 8; i++) {
-            mash.take(0.125);
-        }
+        States.eightDecoctions(mash);
     }
 
+    // The document names the wrong share before the eight.
     private static void refusedBeforeFull(Check check) {
-        MashEnzymes mash = new MashEnzymes();
-        full(mash);
-        check.is("take(0) when full", mash.take(0), MashEnzymes.NONE);
-        check.is("take(1) when full", mash.take(1), MashEnzymes.NONE);
-        check.is("take(NaN) when full", mash.take(Double.NaN), MashEnzymes.NONE);
-    }
-
-    private static void shareNextToTheEdges(Check check) {
-        MashEnzymes mash = new MashEnzymes();
-        mash.grain(8, 0.5, 0);
-        mash.liquor(16, 62, 5.25);
-        check.is("take(least)", mash.take(Double.MIN_VALUE), 0);
-        check.is("water() without the least", mash.water(), 16);
-        check.is("take(nearly all)", mash.take(Math.nextDown(1.0)), 1);
-        check.is("water() left", mash.water(), 16 - 16 * Math.nextDown(1.0));
-        check.is("run(1) goes on", mash.run(1), 1);
-    }
-
-    private static void wrongInputsAreRefused(Check check) {
-        double inf = Double.POSITIVE_INFINITY;
-        for (double share : new double[] {0, -0.0, -0.5, 1, 1.5, inf, -inf, Double.NaN}) {
-            MashEnzymes mash = new MashEnzymes();
-            told(mash);
-            check.is("take(" + share + ")", mash.take(share), MashEnzymes.NONE);
-            check.changesNothing("take(" + share + ")", TakeTest::told, again -> again.take(share));
+        for (double share : new double[] {0, 1, -0.5, 1.5, Double.NaN}) {
+            check.refused("take(" + share + ") when full", TakeTest::full, mash -> mash.take(share), MashEnzymes.NONE);
         }
-        check.is("take(0.5) of nothing", new MashEnzymes().take(0.5), MashEnzymes.NONE);
+    }
+
+    private static void shareIsAboveNothing(Check check) {
+        MashEnzymes mash = new MashEnzymes();
+        told(mash);
+        double water = mash.water();
+        check.is("take(least)", mash.take(Double.MIN_VALUE), 0);
+        check.is("water() without the least", mash.water(), water);
+        for (double share : new double[] {0, -0.0, -Double.MIN_VALUE, -0.5, -1, Double.NEGATIVE_INFINITY}) {
+            refusedInEveryState(check, share);
+        }
+    }
+
+    private static void shareIsBelowAll(Check check) {
+        double nearlyAll = Math.nextDown(1.0);
+        MashEnzymes mash = new MashEnzymes();
+        told(mash);
+        double water = mash.water();
+        double alpha = mash.enzymeLeft(0);
+        check.is("take(nearly all)", mash.take(nearlyAll), 0);
+        check.is("water() left", mash.water(), water - water * nearlyAll);
+        check.is("enzymeLeft(0) left", mash.enzymeLeft(0), alpha - alpha * nearlyAll);
+        check.is("run(1) goes on", mash.run(1), 31);
+        for (double share : new double[] {1, Math.nextUp(1.0), 1.5, 2, Double.POSITIVE_INFINITY, Double.NaN}) {
+            refusedInEveryState(check, share);
+        }
+    }
+
+    private static void refusedInEveryState(Check check, double share) {
+        check.refusedInEveryState("take(" + share + ")", mash -> mash.take(share), MashEnzymes.NONE);
+    }
+
+    private static void emptyIsRefused(Check check) {
+        emptyIsRefused(check, "nothing", mash -> { });
         emptyIsRefused(check, "grain alone", mash -> mash.grain(8, 0.5, 0));
         emptyIsRefused(check, "liquor alone", mash -> mash.liquor(8, 50, 5.5));
     }
 
     private static void emptyIsRefused(Check check, String name, Check.Calls before) {
+        for (double share : new double[] {Double.MIN_VALUE, 0.5, Math.nextDown(1.0)}) {
+            check.refused("take(" + share + ") of " + name, before, mash -> mash.take(share), MashEnzymes.NONE);
+        }
+    }
+
+    private static void atTheLastSecond(Check check) {
         MashEnzymes mash = new MashEnzymes();
-        before.on(mash);
-        check.is("take(0.5) of " + name, mash.take(0.5), MashEnzymes.NONE);
-        check.changesNothing("take(0.5) of " + name, before, again -> again.take(0.5));
+        States.atTheLastSecond(mash);
+        double water = mash.water();
+        check.is("take(0.5) at the last second", mash.take(0.5), 0);
+        check.is("water() at the last second", mash.water(), water * 0.5);
+        check.is("back(0, 60) at the last second", mash.back(0, 60), true);
+        check.is("water() with it back", mash.water(), water);
     }
 }
