@@ -12,8 +12,26 @@ final class Check {
 
     private static final int SUGARS = 5;
     private static final int ENZYMES = 4;
+    private static final int MOST_SECONDS = 120;
+
+    static {
+        Thread watch = new Thread(Check::stopAnEndlessCall);
+        watch.setDaemon(true);
+        watch.start();
+    }
 
     private int wrong;
+
+    // A call that never ends would otherwise hold up the whole run instead of failing its test.
+    private static void stopAnEndlessCall() {
+        try {
+            Thread.sleep(MOST_SECONDS * 1000L);
+        } catch (InterruptedException e) {
+            return;
+        }
+        System.out.println("some call has not ended after " + MOST_SECONDS + " seconds");
+        Runtime.getRuntime().halt(1);
+    }
 
     void is(String call, double got, double due) {
         if (got != due) {
