@@ -23,7 +23,7 @@ final class FaceTest {
         check.end();
     }
 
-    private static Set<String> members() {
+    static Set<String> members() {
         Set<String> members = new TreeSet<>();
         for (Field field : MashEnzymes.class.getDeclaredFields()) {
             if (!Modifier.isPrivate(field.getModifiers())) {
