@@ -38,7 +38,8 @@ final class RunScriptTest {
             project.write(OWN_TEST, test("OwnTest", -1));
             project.write(SHARED_TEST, test("SharedRuns", -1));
             change.of(project);
-            TempProject.Ended ended = project.run(SCRIPT);
+            // By bash, since a folder for temporary files may forbid programs of its own.
+            TempProject.Ended ended = project.run("bash " + SCRIPT);
             check.is("exit code when " + name, ended.exitCode(), exitCode);
             check.is("printed when " + name + ": " + ended.printed(), ended.printed().contains(printed), true);
         }
