@@ -8,6 +8,7 @@ final class BackTest {
         anyOrder(check);
         withoutAnyWater(check);
         aDecoctionWithoutWater(check);
+        theMeanIsReckonedWithoutItsWaterToo(check);
         thereIsNoSuchOne(check);
         theFirstAndTheLastOfEight(check);
         itIsBackAlready(check);
@@ -109,6 +110,20 @@ final class BackTest {
         check.is("back(0, 90)", mash.back(0, 90), true);
         check.is("degrees() without the decoction's", mash.degrees(), 60);
         check.is("starch() with the decoction's", mash.starch(), 4);
+    }
+
+    // W + w is above 0, so T is reckoned, though w is 0: 60.1 times three of the least double rounds to 180 of it.
+    private static void theMeanIsReckonedWithoutItsWaterToo(Check check) {
+        MashEnzymes mash = new MashEnzymes();
+        mash.grain(8, 0.5, 1);
+        mash.liquor(3 * Double.MIN_VALUE, 60, 5.5);
+        mash.step(1, 60.1);
+        mash.run(1);
+        check.is("degrees() of the step", mash.degrees(), 60 + (60.1 - 60) / 1);
+        mash.take(0.1);
+        check.is("water() with all of it", mash.water(), 3 * Double.MIN_VALUE);
+        check.is("back(0, 90)", mash.back(0, 90), true);
+        check.is("degrees() reckoned anew", mash.degrees(), 60);
     }
 
     private static void thereIsNoSuchOne(Check check) {

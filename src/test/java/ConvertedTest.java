@@ -10,7 +10,9 @@ final class ConvertedTest {
         toldInItsOrder(check);
         theLimitIsOfBothStarches(check);
         theLeastStarch(check);
+        theLeastStarchesAddUp(check);
         convertedNoMore(check);
+        onlyGrainTellsStarch(check);
         check.end();
     }
 
@@ -132,6 +134,20 @@ final class ConvertedTest {
         check.is("converted() with it back", mash.converted(), false);
     }
 
+    // With all but one of them taken out, 128 of the least starches are just enough.
+    private static void theLeastStarchesAddUp(Check check) {
+        for (int times : new int[] {64, 127, 128, 129}) {
+            MashEnzymes mash = new MashEnzymes();
+            for (int i = 0; i < times; i++) {
+                mash.grain(Double.MIN_VALUE, 1, 1);
+            }
+            mash.liquor(8, 50, 5.5);
+            mash.take((times - 1.0) / times);
+            check.is("starch() of " + times + " least ones", mash.starch(), Double.MIN_VALUE);
+            check.is("converted() of " + times + " least ones", mash.converted(), times >= 128);
+        }
+    }
+
     // A mash that was converted is so no more when starch is told: only the starch of now counts.
     private static void convertedNoMore(Check check) {
         MashEnzymes mash = new MashEnzymes();
@@ -140,5 +156,19 @@ final class ConvertedTest {
         check.is("converted() without starch", mash.converted(), true);
         mash.grain(8, 0.5, 1);
         check.is("converted() with starch", mash.converted(), false);
+    }
+
+    // Just above the limit, any other call that told starch would make the mash converted.
+    private static void onlyGrainTellsStarch(Check check) {
+        MashEnzymes mash = parted(Math.nextDown(127 / 128.0));
+        mash.enzyme(0, 1000);
+        mash.liquor(10_000, 30, 5.5);
+        mash.step(9, 30);
+        check.is("converted() with enzyme, liquor and step", mash.converted(), false);
+        mash.grain(1000, 0, 0);
+        check.is("converted() with grain without starch", mash.converted(), false);
+        mash.back(0, 30);
+        mash.take(Math.nextDown(127 / 128.0));
+        check.is("converted() with a decoction back and another out", mash.converted(), false);
     }
 }

@@ -16,6 +16,7 @@ final class LiquorTest {
         acidityIsAtLeastThree(check);
         acidityIsAtMostEight(check);
         theEdgesOfAcidityMix(check);
+        acidityMixesAtAnySecond(check);
         liquorAfterTheLastWater(check);
         allWrongIsRefusedToo(check);
         check.end();
@@ -140,6 +141,20 @@ final class LiquorTest {
         acidity(check, 3, 8, 1);
         acidity(check, 8, 3, 1);
         acidity(check, 3, 6, 0.75);
+    }
+
+    // Too sour for any enzyme at first; the second liquor, told later, makes the acidity 5.5.
+    private static void acidityMixesAtAnySecond(Check check) {
+        MashEnzymes mash = new MashEnzymes();
+        mash.grain(16, 0, 1);
+        mash.liquor(4, 50, 3);
+        mash.enzyme(3, 8);
+        mash.run(1);
+        check.is("sugar(4) at acidity 3", mash.sugar(4), 0);
+        double left = mash.enzymeLeft(3);
+        mash.liquor(4, 50, 8);
+        mash.run(1);
+        check.is("sugar(4) at acidity 5.5", mash.sugar(4), left / (left + 8) * 0.0625);
     }
 
     // Without any water left, the new liquor alone makes temperature and acidity.
